@@ -340,7 +340,7 @@ public final class DaySwaps {
             return vehicle == vehicles || (!blocked[stop] && canDo(vehicle, stop));
         }
 
-        /** Writes a vehicle's round over a set of stops behind those in the list; answers the list's length. */
+        /** Writes a vehicle's round over a set of stops behind what the list has; answers its new length. */
         private int addRound(int vehicle, int set, int[] list, int length) {
             int end = length;
             for (int rank = 0; rank < lengthOf[vehicle]; rank++) {
@@ -382,7 +382,7 @@ public final class DaySwaps {
             return Math.max(0, time - hoursOf[vehicle]);
         }
 
-        /** Prepares a vehicle's row of the next day; the rows stay until all are prepared, as rounds hang on them. */
+        /** A vehicle's row of the next day; the rows stay until all are prepared, as rounds hang on them. */
         private void prepareRow(int vehicle, int carriedSet, int givenSet) {
             int length = 0;
             for (int stop = 0; stop < stops; stop++) {
@@ -469,7 +469,10 @@ public final class DaySwaps {
             return best[sets - 1];
         }
 
-        /** Takes one vehicle more into best; from the largest set down, so that its parts are still without it. */
+        /**
+         * Takes one vehicle more into best: from the largest set down, so that a set's parts are
+         * still without it. The parts of a set come in falling order, and end at 0.
+         */
         private void join(int sets) {
             for (int set = sets - 1; set > 0; set--) {
                 long least = best[set];

@@ -16,7 +16,9 @@ public final class PromisesTest {
         extra();
         run();
         runTakesTheFirst();
+        runCountsOvertime();
         runRefusals();
+        runRefusalsOfFrozenOnesAlone();
         vehicleOf();
         place();
         moved();
@@ -26,12 +28,14 @@ public final class PromisesTest {
         sent();
         undo();
         undoKeepsSix();
+        undoOfSixthKnowsItsStops();
         copy();
         compare();
         cost();
         overtime();
         next();
         nextClears();
+        nextByRows();
         System.out.println(wrong == 0 ? "all promises are kept" : wrong + " answers are not as due");
         if (wrong != 0) {
             System.exit(1);
@@ -304,6 +308,37 @@ public final class PromisesTest {
         due("carried", plan(y, 2), "33");
     }
 
+    /** Giving stop 1 to vehicle 1 saves more time, carrying stop 0 saves more overtime. */
+    private static void runCountsOvertime() {
+        DaySwaps x = new DaySwaps(2);
+        x.stop(0, 1, 40);
+        x.stop(0, 2, 0);
+        x.stop(1, 3, 0);
+        x.way(0, 3, 110);
+        x.way(2, 3, 0);
+        x.extra(50);
+        x.hours(0, 160);
+        due("no overtime either way", x.run(), 1);
+        due("least time", plan(x, 3), "011");
+        due("cost", x.cost(), 160 + 170);
+        x.hours(0, 120);
+        due("overtime one way", x.run(), 1);
+        due("least time and overtime together", plan(x, 3), "201");
+        due("cost", x.cost(), 120 + 220);
+    }
+
+    private static void runRefusalsOfFrozenOnesAlone() {
+        DaySwaps x = twoVehicles();
+        x.freeze(0, true);
+        x.hours(0, 0);
+        x.block(2, true);
+        due("a blocked one that is not frozen", x.run(), -4);
+        x.out(0, 1);
+        due("one that can't be done, but is not frozen", x.run(), -4);
+        x.hours(0, 220);
+        due("holds", x.run(), 2);
+    }
+
     private static void runRefusals() {
         DaySwaps x = twoVehicles();
         x.block(1, true);
@@ -521,6 +556,19 @@ public final class PromisesTest {
         due("no more", x.undo(), false);
     }
 
+    private static void undoOfSixthKnowsItsStops() {
+        DaySwaps x = new DaySwaps(1);
+        for (int i = 0; i < 8; i++) {
+            x.stop(0, 1, 1);
+            x.block(i, true);
+            due("all are carried", x.run(), i + 1);
+        }
+        for (int i = 0; i < 6; i++) {
+            due("undone", x.undo(), true);
+        }
+        due("two carried, those told since then in their row", plan(x, 8), "11000000");
+    }
+
     private static void copy() {
         promise = 17;
         DaySwaps x = twoVehicles();
@@ -676,6 +724,25 @@ public final class PromisesTest {
         y.out(1, 1);
         due("goes again", y.run(), 1);
         due("it", y.moved(0), 1);
+    }
+
+    private static void nextByRows() {
+        DaySwaps x = twoVehicles();
+        x.stop(1, 4, 0);
+        x.block(3, true);
+        x.block(1, true);
+        x.out(1, 5);
+        due("two carried", x.run(), 2);
+        due("two carried", x.next(), 2);
+        due("each in its row", plan(x, 4), "0011");
+        due("first there", places(x, 4), "1010");
+        x.out(0, 0);
+        due("vehicle 1 is not out", x.run(), 2);
+        x.way(0, 1, 0);
+        x.way(1, 3, 0);
+        x.way(0, 3, 1000);
+        due("and takes others", x.run(), 2);
+        due("plan", plan(x, 4), "1211");
     }
 
     /** Row 0: stops 0 (place 1, 100 s) and 1 (place 2, 200 s); row 1: stop 2 (place 3, 300 s). */

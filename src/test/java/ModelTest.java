@@ -7,8 +7,9 @@ import java.util.Random;
 
 /** Long runs of calls, the same each time, against a plain model that tries every plan. */
 public final class ModelTest {
-    private static final int OBJECTS = 600;
-    private static final int CALLS = 120;
+    private static final int OBJECTS = 1300;
+    /** With what is asked behind each change and at the end an object gets 512 calls at most. */
+    private static final int CHANGES = 55;
     private static int wrong = 0;
     private static final int[] RUN_ANSWERS = new int[13];
 
@@ -36,9 +37,12 @@ public final class ModelTest {
         List<String> calls = new ArrayList<>();
         calls.add("new DaySwaps(" + vehicles + ")");
         int manyStops = random.nextInt(9);
-        for (int call = 0; call < CALLS && wrong == 0; call++) {
-            int kind = call < manyStops ? 0 : random.nextInt(20);
+        for (int change = 0; change < CHANGES && wrong == 0; change++) {
+            int kind = change < manyStops ? 0 : random.nextInt(20);
             change(kind, real, model, random, calls);
+            glance(real, model, random, calls);
+        }
+        if (wrong == 0) {
             lookAround(real, model, calls);
         }
         if (wrong != 0) {
@@ -109,6 +113,20 @@ public final class ModelTest {
         }
     }
 
+    private static void glance(DaySwaps x, Model m, Random r, List<String> calls) {
+        int told = calls.size();
+        int s = edge(r, m.stops.size());
+        int k = edge(r, 4);
+        int copy = edge(r, 3);
+        same(calls, "cost()", x.cost(), m.cost());
+        same(calls, "vehicleOf(" + s + ")", x.vehicleOf(s), m.vehicleOf(s));
+        same(calls, "place(" + s + ")", x.place(s), m.place(s));
+        same(calls, "sent(" + s + ")", x.sent(s), m.sent(s));
+        same(calls, "moved(" + k + ")", x.moved(k), m.moved(k));
+        same(calls, "compare(" + copy + ", " + k + ")", x.compare(copy, k), m.compare(copy, k));
+        forgetIfRight(calls, told);
+    }
+
     private static void lookAround(DaySwaps x, Model m, List<String> calls) {
         int told = calls.size();
         for (int i = -1; i <= 9; i++) {
@@ -125,6 +143,10 @@ public final class ModelTest {
         for (int v = -1; v <= 3; v++) {
             same(calls, "overtime(" + v + ")", x.overtime(v), m.overtime(v));
         }
+        forgetIfRight(calls, told);
+    }
+
+    private static void forgetIfRight(List<String> calls, int told) {
         if (wrong == 0) {
             calls.subList(told, calls.size()).clear();
         }

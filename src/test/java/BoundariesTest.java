@@ -263,6 +263,7 @@ public final class BoundariesTest {
         frozenStaysThoughDear();
         fewestFirst();
         leastByOneSecond();
+        overtimeCountsAsMuchAsTime();
         firstByVehicles();
         dearestPlanOfAll();
     }
@@ -350,6 +351,27 @@ public final class BoundariesTest {
         z.way(1, 2, 1);
         due("one second more", z.run(), 1);
         due("carried", plan(z, 2), "21");
+    }
+
+    /** Giving stop 1 to vehicle 1 leaves times of 160 and 170, carrying stop 0 leaves 120 and 220. */
+    private static void overtimeCountsAsMuchAsTime() {
+        sentence("of those it costs least: all times and all overtimes together");
+        int[] hours = {160, 151, 150, 149, 120};
+        String[] plans = {"011", "011", "011", "201", "201"};
+        int[] costs = {330, 339, 340, 340, 340};
+        for (int i = 0; i < hours.length; i++) {
+            DaySwaps x = new DaySwaps(2);
+            x.stop(0, 1, 40);
+            x.stop(0, 2, 0);
+            x.stop(1, 3, 0);
+            x.way(0, 3, 110);
+            x.way(2, 3, 0);
+            x.extra(50);
+            x.hours(0, hours[i]);
+            due("hours of " + hours[i], x.run(), 1);
+            due("the first of the cheapest", plan(x, 3), plans[i]);
+            due("its cost", x.cost(), costs[i]);
+        }
     }
 
     private static void firstByVehicles() {
@@ -733,6 +755,14 @@ public final class BoundariesTest {
         x.out(1, 0);
         x.extra(70);
         due("the other is out, with nothing frozen", x.run(), -4);
+        DaySwaps y = allInOneRow(8);
+        for (int stop = 0; stop < 8; stop++) {
+            y.freeze(stop, true);
+        }
+        y.hours(0, 128);
+        due("8 stops, just enough hours", y.run(), 0);
+        y.hours(0, 127);
+        due("8 stops, one second too few", y.run(), -4);
     }
 
     private static void runRefusedKeepsNothing() {
@@ -941,6 +971,7 @@ public final class BoundariesTest {
     private static void undoing() {
         undoWhenNoneIsKept();
         undoOfStopsToldSince();
+        undoOfTheOldestKept();
     }
 
     private static void undoWhenNoneIsKept() {
@@ -967,14 +998,14 @@ public final class BoundariesTest {
         DaySwaps x = new DaySwaps(3);
         due("a run without stops", x.run(), 0);
         for (int i = 0; i < 8; i++) {
-            x.stop(i % 3, 1, 1);
+            x.stop(2 - i % 3, 1, 1);
             x.block(i, true);
         }
         due("all are carried", x.run(), 8);
         due("to the plan before", x.undo(), true);
-        due("all in their rows", plan(x, 8), "01201201");
+        due("all in their rows", plan(x, 8), "21021021");
         due("to the plan without stops", x.undo(), true);
-        due("all were told since then", plan(x, 8), "01201201");
+        due("all were told since then", plan(x, 8), "21021021");
         DaySwaps y = new DaySwaps(2);
         y.stop(0, 0, 0);
         y.out(0, 0);
@@ -991,6 +1022,23 @@ public final class BoundariesTest {
         due("the one told since then in its row, the other one moved", plan(y, 2), "10");
         due("undone", y.undo(), true);
         due("both in their rows", plan(y, 2), "00");
+    }
+
+    private static void undoOfTheOldestKept() {
+        sentence("16: stops that were told since then, also of the oldest of the six that are kept");
+        DaySwaps x = new DaySwaps(2);
+        for (int i = 0; i < 8; i++) {
+            x.stop(1, 1, 1);
+            x.block(i, true);
+            due("all are carried", x.run(), i + 1);
+        }
+        String[] plans = {"22222221", "22222211", "22222111", "22221111", "22211111", "22111111"};
+        for (String plan : plans) {
+            due("kept", x.undo(), true);
+            due("those told since then in their row", plan(x, 8), plan);
+        }
+        due("no more", x.undo(), false);
+        due("stays", plan(x, 8), "22111111");
     }
 
     private static void keepingBeside() {

@@ -1152,6 +1152,7 @@ public final class BoundariesTest {
         nextRoundsBecomeRows();
         nextNothingIsFrozenBlockedOrOut();
         nextNothingIsKept();
+        nextLeavesWhatItDoesNotName();
     }
 
     private static void nextWithoutAny() {
@@ -1269,6 +1270,27 @@ public final class BoundariesTest {
         due("no more", x.undo(), false);
         due("differs from the copy of this day", x.compare(0, 0), 1);
         due("by no more", x.compare(0, 1), -1);
+    }
+
+    private static void nextLeavesWhatItDoesNotName() {
+        sentence("Nothing is promised beyond the state changes described above: 21 names no ways, hours or extra");
+        DaySwaps x = new DaySwaps(3);
+        for (int vehicle = 0; vehicle < 3; vehicle++) {
+            x.stop(vehicle, 1 + vehicle, 100);
+            x.way(0, 1 + vehicle, 10 * vehicle);
+            x.hours(vehicle, 90 + 10 * vehicle);
+        }
+        x.extra(20);
+        for (int day = 0; day < 3; day++) {
+            due("ways and hours", x.cost(), 100 + 10 + 120 + 20 + 140 + 30);
+            for (int vehicle = 0; vehicle < 3; vehicle++) {
+                due("hours of " + vehicle, x.overtime(vehicle), 10 + 10 * vehicle);
+            }
+            due("the extra", x.run(), 1);
+            due("one is above it", plan(x, 3), "013");
+            due("carried", x.next(), 1);
+        }
+        due("stops stay too", x.stop(0, 1, 1), 3);
     }
 
     /** One vehicle, stops of place 1 with a second each. */
